@@ -1,0 +1,35 @@
+import java.util.Objects;
+
+/** Counts the answers that are not as due, and tells them. */
+final class Check {
+    interface Call {
+        Object run();
+    }
+
+    private int wrong = 0;
+
+    void is(String what, Object got, Object due) {
+        if (!Objects.equals(got, due)) {
+            wrong++;
+            System.out.println(what + " answered " + got + ", due is " + due);
+        }
+    }
+
+    /** The very class of the exception is due, not one below it. */
+    void fails(String what, Class<? extends RuntimeException> due, Call call) {
+        Object got;
+        try {
+            got = call.run();
+        } catch (RuntimeException e) {
+            got = e.getClass();
+        }
+        is(what, got, due);
+    }
+
+    void end() {
+        System.out.println(wrong == 0 ? "all answers are as due" : wrong + " answers are not as due");
+        if (wrong != 0) {
+            System.exit(1);
+        }
+    }
+}
