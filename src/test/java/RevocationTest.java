@@ -153,6 +153,28 @@ final class RevocationTest {
         check.is("both: a group's end denies nothing", desk.isDenied(2, 0), false);
     }
 
+    private void blockedOnesDoNotHinderOthers() {
+        Recertify desk = Desks.withPeople(5);
+        desk.addRight(1, 1, true);
+        desk.addRight(1, 1, true);
+        desk.addRight(1, 1, false);
+        desk.grantPerson(0, 0);
+        desk.grantPerson(1, 2);
+        desk.grantPerson(2, 0);
+        desk.grantPerson(2, 3);
+        desk.setLimit(0);
+        desk.openCampaign(1);
+        desk.pass(3);
+        check.is("hinder: the last holder is person 0", desk.stateOf(0), 'w');
+        check.is("hinder: the last holder of another right", desk.stateOf(1), 'w');
+        check.is("hinder: behind two blocked ones", desk.stateOf(2), 'x');
+        check.is("hinder: the last", desk.stateOf(3), 'x');
+        check.is("hinder: denied to person 0", desk.isDenied(0, 2), true);
+        check.is("hinder: denied to person 3 too", desk.isDenied(3, 2), true);
+        check.is("hinder: not denied to others", desk.isDenied(2, 2), false);
+        check.is("hinder: entries", desk.entries(), 6);
+    }
+
     private void silenceIsWholeBeforeAnEnd() {
         Recertify desk = Desks.withPeople(3);
         desk.addRight(6, 0, false);
@@ -210,6 +232,7 @@ final class RevocationTest {
         test.orderOfDueDays();
         test.orderOnOneDay();
         test.orderOfLookWhenBothAreDue();
+        test.blockedOnesDoNotHinderOthers();
         test.silenceIsWholeBeforeAnEnd();
         test.silenceTakesTheRiskThen();
         test.throwingChangesNothing();

@@ -354,6 +354,17 @@ final class RightsTest {
         check.fails("32 right -1", NoSuchElementException.class, () -> desk.pathAt(0, -1, 9));
     }
 
+    private void promise30To32GroupZeroLast() {
+        Recertify desk = Desks.withGroups(2, 3);
+        desk.addRight(1, 0, false);
+        desk.nest(2, 1);
+        desk.nest(1, 0);
+        desk.addMember(0, 1);
+        desk.grantGroup(0, 2);
+        check.is("30 group 0 at the end", desk.paths(1, 0), 1);
+        checkPath(desk, 1, 2, 1, 0);
+    }
+
     private void promise36Grants() {
         Recertify desk = Desks.withRights(2, 1);
         check.is("36 none", desk.grants(), 0);
@@ -394,6 +405,7 @@ final class RightsTest {
         test.promise30Paths();
         test.promise31PathLength();
         test.promise32PathAt();
+        test.promise30To32GroupZeroLast();
         test.promise36Grants();
         test.promise39LastUse();
         test.check.end();
