@@ -6,12 +6,18 @@ final class Check {
         Object run();
     }
 
+    private String sentence = "";
     private int wrong = 0;
+
+    /** What is checked from now on belongs to this sentence of the document. */
+    void sentence(String words) {
+        sentence = "\"" + words + "\": ";
+    }
 
     void is(String what, Object got, Object due) {
         if (!Objects.equals(got, due)) {
             wrong++;
-            System.out.println(what + " answered " + got + ", due is " + due);
+            System.out.println(sentence + what + " answered " + got + ", due is " + due);
         }
     }
 

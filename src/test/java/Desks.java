@@ -29,4 +29,32 @@ final class Desks {
         }
         return desk;
     }
+
+    /** Nests each of the groups from 0 in all that have a lower number. */
+    static void nestAll(Recertify desk, int groups) {
+        for (int group = 0; group < groups; group++) {
+            for (int inner = group + 1; inner < groups; inner++) {
+                desk.nest(group, inner);
+            }
+        }
+    }
+
+    /** Has the reviewers end all grants on this day; each needs a reviewer, and none may be of a vital right. */
+    static void revokeAll(Recertify desk) {
+        int grace = desk.setGrace(0);
+        int items = desk.openCampaign(1);
+        for (int item = 0; item < items; item++) {
+            desk.answer(desk.reviewerOf(desk.grantOf(item)), item, 'r');
+        }
+        desk.setGrace(grace);
+    }
+
+    /** Ten people, each with a grant of the rights 0 and 1, and four of them with one of the right 2 too. */
+    static Recertify withTwentyFourGrants() {
+        Recertify desk = withRights(10, 3);
+        for (int grant = 0; grant < 24; grant++) {
+            desk.grantPerson(grant / 10, grant % 10);
+        }
+        return desk;
+    }
 }

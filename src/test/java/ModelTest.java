@@ -3,6 +3,7 @@ import java.lang.reflect.Method;
 import java.lang.reflect.Modifier;
 import java.util.ArrayList;
 import java.util.Arrays;
+import java.util.Collections;
 import java.util.List;
 import java.util.Map;
 import java.util.TreeMap;
@@ -24,6 +25,8 @@ final class ModelTest {
         "grantGroup", "removeMember", "addMember", "nest", "setAbsent", "setAbsent", "setSubstitute", "setLimit",
         "setGrace", "addPerson", "addRight"};
 
+    private static final String[] FILLING = filling();
+
     private final Map<String, Method> real = publicMethods(Recertify.class);
     private final Map<String, Method> modelled = publicMethods(Model.class);
     private final List<String> queries = new ArrayList<>(real.keySet());
@@ -39,6 +42,18 @@ final class ModelTest {
     private ModelTest() {
         queries.removeAll(Arrays.asList(SETUP));
         queries.removeAll(Arrays.asList(LATER));
+    }
+
+    private static String[] filling() {
+        List<String> calls = new ArrayList<>();
+        calls.addAll(Collections.nCopies(11, "addPerson"));
+        calls.addAll(Collections.nCopies(9, "addGroup"));
+        calls.addAll(Collections.nCopies(11, "addRight"));
+        calls.addAll(Collections.nCopies(12, "addMember"));
+        calls.addAll(Collections.nCopies(16, "nest"));
+        calls.addAll(Collections.nCopies(12, "grantPerson"));
+        calls.addAll(Collections.nCopies(14, "grantGroup"));
+        return calls.toArray(new String[0]);
     }
 
     private static Map<String, Method> publicMethods(Class<?> type) {
@@ -127,7 +142,11 @@ final class ModelTest {
         return list(person, item, kind == 0 ? 'u' : kind == 1 ? (char) below(65536) : below(2) == 0 ? 'k' : 'r');
     }
 
-    private String pick(int call) {
+    /** Every third run begins with a desk on which all rows are full or nearly so. */
+    private String pick(int run, int call) {
+        if (run % 3 == 0 && call < FILLING.length) {
+            return FILLING[call];
+        }
         if (call < 70) {
             return call < 6 ? "addPerson" : SETUP[below(SETUP.length)];
         }
@@ -154,7 +173,7 @@ final class ModelTest {
         rights = 0;
         StringBuilder told = new StringBuilder();
         for (int call = 0; call < CALLS; call++) {
-            String name = pick(call);
+            String name = pick(run, call);
             Object[] arguments = arguments(name);
             Object due = call(modelled.get(name), model, arguments);
             Object got = call(real.get(name), desk, arguments);
